@@ -88,8 +88,10 @@ final class DiceTest {
         check.due("ring, 2", Check.harbour("d3 3 5 5 7 7;d1 1 6 6 8 8;d2 2 4 4 9 9;").ring(), 2);
         check.due("ring, at first", new TideDice().ring(), 0);
         check.due("ring, one after another", Check.harbour("d3;d2;d1;").ring(), 0);
-        // 0 beats 1 by one of two, never less often than 1 beats 0, but not more often than not.
-        check.due("ring, half is not more", Check.harbour("d2 4;d3 2 2 4;d1;").ring(), 0);
+        check.due("ring, the other way, but for one", Check.harbour("d1;d2;d3;").ring(), 0);
+        // 0 beats 1 by one of two; 1 beats 2, 2 beats 0 by two of three.
+        check.due("ring, half is not more", Check.harbour("d1 4;d3;d2 2 5;").ring(), 0);
+        check.due("ring, half the other way", Check.harbour("d3;d1 4;d2 2 5;").ring(), 0);
         // As the ring of 1 above, but alike ones take 1's wins over 2 below a half.
         check.due("ring, alike ones", Check.harbour("d2 2 4 4 9 9;d1 1 5 5 7 7;d3 3 5 5 7 7;").ring(), 0);
     }
@@ -108,10 +110,11 @@ final class DiceTest {
         x.throwsDice(1, 9, 9);
         x.leaves();
         x.leaves();
+        x.leaves();
         x.takes(3);
         check.due("wind", x.now(1), 1);
         // In wind 1 berth 1 is open by 389 twice, by 199 once.
-        int[] later = {1, 4, 0, 8, 7, 3};
+        int[] later = {1, 4, 0, 8, 7, 4};
         for (int kind = 0; kind < 6; kind++) {
             check.due("mark(" + kind + ", 1), later", x.mark(kind, 1), later[kind]);
         }

@@ -137,6 +137,13 @@ final class OddsTest {
         x = Check.harbour("b 3;");
         x.throwsDice(4, 5, 6);
         check.due("cheap, nothing open", x.cheap(), NONE);
+        x.passes();
+        x.throwsDice(1, 2, 6);
+        check.due("cheap, the first berth", x.cheap(), 1);
+        x.takes(1);
+        x.throwsDice(3, 5, 6);
+        check.due("cheap, the last berth", x.cheap(), 3);
+        check.due("wise, the last berth", x.wise(0), 3);
     }
 
     private static void ever() {
@@ -213,5 +220,10 @@ final class OddsTest {
         check.due("bet, farthest", x.bet(), 4);
         x.wipes();
         check.due("bet, wiped", x.bet(), NONE);
+        x = Check.harbour("d1 2 3 3 3;d8;d9;b3;g3;");
+        x.chalks(1, 43);
+        check.due("off(0), by one", x.off(0), -1);
+        check.due("wrong, the first", x.wrong(), 1);
+        check.due("bet, by one", x.bet(), 0);
     }
 }

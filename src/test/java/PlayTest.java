@@ -126,6 +126,8 @@ final class PlayTest {
         check.due("owed", x.now(5), -1);
         x.throwsDice(1, 2, 6);
         check.due("takes(9), above two", x.takes(9), 2);
+        check.due("open, but 3, 9 (his) and 4, 5 (mine)", x.throwsDice(4, 5, 3), Check.bits(7, 8, 12));
+        x.undo();
         check.due("owed", x.now(5), 1);
         check.due("who moves", x.now(0), 0);
     }

@@ -8,6 +8,7 @@ final class TextTest {
         clearing();
         textsThatTell();
         textsWithFaults();
+        clearedBytesAreNotRead();
         faultChangesNothing();
         readAnew();
         dice();
@@ -124,6 +125,8 @@ final class TextTest {
         // letters that begin no item
         fault("x;", 0);
         fault("dd1;", 0);
+        fault("da1;", 0);
+        fault("dz1;", 0);
         fault("d1;bg 3;", 3);
         // told too often
         fault("d1;d1;d1;d1;", 9);
@@ -158,6 +161,23 @@ final class TextTest {
         // the first fault of several
         fault("d 0 01 100 A", 2);
         fault("x" + (char) 200, 0);
+        // a full text that ends within a token
+        fault("d".repeat(120), 0);
+        fault("1".repeat(120), 0);
+        fault("b" + " ".repeat(118) + "3", 120);
+    }
+
+    private static void clearedBytesAreNotRead() {
+        TideDice x = new TideDice();
+        Check.type(x, "bb 15;");
+        x.clear();
+        Check.type(x, "b");
+        check.due("harbour, a word ends with the text", x.harbour(), -11);
+        x.clear();
+        Check.type(x, "b 15;");
+        x.clear();
+        Check.type(x, "b 1");
+        check.due("harbour, a number ends with the text", x.harbour(), -12);
     }
 
     private static void fault(String text, int place) {
@@ -204,6 +224,10 @@ final class TextTest {
         check.due("harbour, one item", x.harbour(), 1);
         check.due("berths as told", x.count(0), 3);
         check.due("goal at first", x.count(1), 4);
+        Check.type(x, "d 8;g 2;b 4;");
+        check.due("harbour, three items", x.harbour(), 3);
+        check.due("die 0 is the first told again", x.die(0, 0), 8);
+        check.due("die 1 at first", x.die(1, -1), 6);
     }
 
     private static void dice() {
