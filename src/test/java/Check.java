@@ -2,13 +2,33 @@
 final class Check {
     private int passed;
     private int failed;
+    private String words = "";
+    private int passedAhead;
+    private int failedAhead;
+
+    /** From here on it is these words of the document that are held. */
+    void sentence(String quoted) {
+        endSentence();
+        words = quoted;
+    }
+
+    /** A sentence that nothing was asked of is not held. */
+    private void endSentence() {
+        if (!words.isEmpty() && passed == passedAhead && failed == failedAhead) {
+            failed++;
+            System.out.println("\"" + words + "\" has no check");
+        }
+        passedAhead = passed;
+        failedAhead = failed;
+    }
 
     void due(String call, long got, long want) {
         if (got == want) {
             passed++;
         } else {
             failed++;
-            System.out.println(call + " answered " + got + ", due is " + want);
+            String of = words.isEmpty() ? "" : " (\"" + words + "\")";
+            System.out.println(call + " answered " + got + ", due is " + want + of);
         }
     }
 
@@ -17,6 +37,7 @@ final class Check {
     }
 
     void end() {
+        endSentence();
         System.out.println(passed + " passed, " + failed + " failed");
         if (failed != 0 || passed == 0) {
             System.exit(1);
